@@ -886,6 +886,7 @@ public final class SealedGateway {
         private static final int AROUND_TEXT = TEXT_AT + STAMP_SIZE;
         private static final int WINDOW = 64;
         private static final long LOW_BITS = 0xFFFFFFFFL;
+        private static final long HIGHEST_NUMBER = 0x7FFFFFFFFFFFFFFFL;
 
         private final int way;
         private final int tunnel;
@@ -946,7 +947,7 @@ public final class SealedGateway {
         }
 
         long lastNumber() {
-            return isLong ? Long.MAX_VALUE : LOW_BITS;
+            return isLong ? HIGHEST_NUMBER : LOW_BITS;
         }
 
         void countFrom(long number) {
@@ -1039,7 +1040,7 @@ public final class SealedGateway {
             } else if (first < 0 && low >= first + LOW_BITS + 1) {
                 high--;
             }
-            return high < 0 || high > Integer.MAX_VALUE ? NONE : high << 32 | low;
+            return high < 0 || high > HIGHEST_NUMBER >>> 32 ? NONE : high << 32 | low;
         }
 
         boolean isOld(long number) {

@@ -170,6 +170,16 @@ public final class TablesTest {
         g.make(1, 2, 1, 9, 0, 0);
         DUE.is("the latest meant counts alone", g.meaning(1), -1);
         g.clear();
+        g.meant(17, 0, 0);
+        g.policy(0, 0, 0, 0, 0, 0);
+        DUE.is("door 0", meaning(g, 17, 300, 254), -1);
+        g.poke(22, 0);
+        g.poke(23, 0);
+        DUE.is("door 0", g.meaning(0), 0);
+        for (int n = 0; n < 4; n++) {
+            DUE.is(n + " bytes are no door 0", meaning(g, 17, n, 0), -1);
+        }
+        g.clear();
         g.meant(9, 0, 65535);
         g.clear();
         g.policy(0, 0, 0, 0, 0, 0);

@@ -154,5 +154,11 @@ public final class TapeTest {
         g.poke(19, 1);
         DUE.is("sum of beyond 16 bits", g.sum(), 65535 - 0x0101);
         DUE.is("at(10)", g.at(10), 0xFE);
+        for (int k = 4; k < 20; k++) {
+            g.poke(k, 0);
+        }
+        g.poke(5, 1);
+        DUE.is("sum of what goes beyond 16 bits twice", g.sum(), 65534);
+        DUE.is("at(11)", g.at(11), 0xFE);
     }
 }
