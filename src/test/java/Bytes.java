@@ -2,7 +2,6 @@ import java.util.Arrays;
 
 /**
  * Packets made by the tests on their own, from the document's words; a byte is an int 0 .. 255.
- * Reading and typing whole packets takes some objects over 512 calls: the program does not count calls.
  */
 final class Bytes {
     static final int DONT = 0x4000;
@@ -152,7 +151,7 @@ final class Bytes {
         return mend(b);
     }
 
-    static void type(SealedGateway gate, int[] bytes) {
+    static void type(Gate gate, int[] bytes) {
         int[] padded = Arrays.copyOf(bytes, (bytes.length + 7) / 8 * 8);
         gate.keep(0);
         for (int k = 0; k < padded.length; k += 8) {
@@ -161,12 +160,12 @@ final class Bytes {
         gate.keep(bytes.length);
     }
 
-    static int come(SealedGateway gate, int port, int[] bytes) {
+    static int come(Gate gate, int port, int[] bytes) {
         type(gate, bytes);
         return gate.come(port);
     }
 
-    static int[] sent(SealedGateway gate, int packet) {
+    static int[] sent(Gate gate, int packet) {
         int[] b = new int[gate.sent(packet, SealedGateway.NONE)];
         for (int k = 0; k < b.length; k++) {
             b[k] = gate.sent(packet, k);
@@ -174,7 +173,7 @@ final class Bytes {
         return b;
     }
 
-    static int[] tape(SealedGateway gate, int n) {
+    static int[] tape(Gate gate, int n) {
         int[] b = new int[n];
         for (int k = 0; k < n; k++) {
             b[k] = gate.at(k);

@@ -20,8 +20,8 @@ public final class InnerPortTest {
         DUE.finish();
     }
 
-    private static SealedGateway gate(int done) {
-        SealedGateway g = new SealedGateway(OWN);
+    private static Gate gate(int done) {
+        Gate g = new Gate(OWN);
         g.route(0x0A000000, 8, 0);
         g.route(0x0B000000, 8, 1);
         g.peer(2, PEER);
@@ -30,7 +30,7 @@ public final class InnerPortTest {
     }
 
     private static void reasonsInOrder() {
-        SealedGateway g = new SealedGateway(OWN);
+        Gate g = new Gate(OWN);
         DUE.argument("come(2)", () -> g.come(2));
         DUE.argument("come(-1)", () -> g.come(-1));
         g.make(IN, OUT, 1, 1, 0, 0);
@@ -62,7 +62,7 @@ public final class InnerPortTest {
     }
 
     private static void broken() {
-        SealedGateway g = gate(-1);
+        Gate g = gate(-1);
         int[] good = Bytes.packet(IN, OUT, 1, 9, Bytes.content(5, 0));
         DUE.is("not broken", Bytes.come(g, 0, good), 0);
         DUE.is("bytes behind it", Bytes.come(g, 0, Bytes.join(good, new int[] {1, 2, 3})), 0);
@@ -92,7 +92,7 @@ public final class InnerPortTest {
     }
 
     private static void bypass() {
-        SealedGateway g = gate(-1);
+        Gate g = gate(-1);
         int[] p = Bytes.with(Bytes.packet(IN, OUT, 17, 9, Bytes.content(11, 3)), 0xAB, 0x1234, 0xC000 | Bytes.MORE | 77);
         DUE.is("come", Bytes.come(g, 0, p), 0);
         DUE.is("one hop less, its right SUM", Arrays.equals(Bytes.sent(g, 0), Bytes.oneHopLess(p)), true);
@@ -110,16 +110,17 @@ public final class InnerPortTest {
     }
 
     private static void bypassInParts() {
-        SealedGateway g = gate(-1);
+        Gate first = gate(-1);
         int[] p = Bytes.with(Bytes.packet(IN, OUT, 17, 9, Bytes.content(1480, 3)), 1, 2, Bytes.DONT);
-        DUE.is("1500 with DONT", Bytes.come(g, 0, p), 0);
-        DUE.is("in one", g.sent(1, -1), 0);
+        DUE.is("1500 with DONT", Bytes.come(first, 0, p), 0);
+        DUE.is("in one", first.sent(1, -1), 0);
         p = Bytes.with(Bytes.packet(IN, OUT, 17, 9, Bytes.content(1481, 3)), 1, 2, Bytes.DONT);
-        DUE.is("1501 with DONT", Bytes.come(g, 0, p), 6);
-        DUE.is("sent stays", g.sent(0, -1), 1500);
+        DUE.is("1501 with DONT", Bytes.come(first, 0, p), 6);
+        DUE.is("sent stays", first.sent(0, -1), 1500);
         int[] flags = {0, 0x8000, Bytes.MORE, 100, Bytes.MORE | 8191, 0x8000 | 8006, 8007, 8006};
         for (int f : flags) {
             for (int n : new int[] {1481, 1980}) {
+                Gate g = gate(-1);
                 p = Bytes.with(Bytes.packet(IN, OUT, 17, 9, Bytes.content(n, 3)), 0x55, 0xFEDC, f);
                 DUE.is("more than 1500", Bytes.come(g, 0, p), 0);
                 int[] less = Bytes.oneHopLess(p);
@@ -130,12 +131,12 @@ public final class InnerPortTest {
                 DUE.is("the first part", Arrays.equals(Bytes.sent(g, 0), one), true);
                 DUE.is("the second part", Arrays.equals(Bytes.sent(g, 1), two), true);
                 DUE.is("its port", g.sent(1, -2), 1);
+                g.make(IN, OUT, 1, 9, 0, 0);
+                DUE.is("a small one", g.come(0), 0);
+                DUE.is("no second one any more", g.sent(1, -1), 0);
+                DUE.state("take(1)", () -> g.take(1));
             }
         }
-        g.make(IN, OUT, 1, 9, 0, 0);
-        DUE.is("a small one", g.come(0), 0);
-        DUE.is("no second one any more", g.sent(1, -1), 0);
-        DUE.state("take(1)", () -> g.take(1));
     }
 
     private static int[] sealed(int[] p, int name, long key, long stampKey, boolean isLong, long number, int sealedBefore) {
@@ -145,7 +146,7 @@ public final class InnerPortTest {
     }
 
     private static void sealing() {
-        SealedGateway g = gate(2);
+        Gate g = gate(2);
         long key = 0x8123456789ABCDEFL;
         long stampKey = -77;
         g.seal(0, 2, 0x01020304, key, stampKey, false, 100);
@@ -181,7 +182,7 @@ public final class InnerPortTest {
     }
 
     private static void choosingSeals() {
-        SealedGateway g = gate(2);
+        Gate g = gate(2);
         g.make(IN, OUT, 1, 9, 0, 0);
         DUE.is("no seal", g.come(0), 5);
         g.seal(1, 2, 300, 1, 2, false, 9);
@@ -215,7 +216,7 @@ public final class InnerPortTest {
     }
 
     private static void sealedTooMuch() {
-        SealedGateway g = gate(2);
+        Gate g = gate(2);
         g.seal(0, 2, 300, 1, 2, false, 9);
         int[] most = Bytes.with(Bytes.packet(IN, OUT, 17, 9, Bytes.content(1442, 3)), 0, 0, Bytes.DONT);
         DUE.is("1462 bytes with DONT", Bytes.come(g, 0, most), 0);
@@ -231,7 +232,7 @@ public final class InnerPortTest {
     }
 
     private static void taking() {
-        SealedGateway g = gate(-1);
+        Gate g = gate(-1);
         int[] p = Bytes.packet(IN, OUT, 17, 9, Bytes.content(1500, 3));
         Bytes.come(g, 0, p);
         DUE.is("take(1)", g.take(1), 40);

@@ -3,7 +3,9 @@ import java.util.Random;
 
 /** Random runs of calls, the same on the program and on the model; the seeds are fixed. */
 public final class ModelTest {
-    private static final int RUNS = 3000;
+    private static final int RUNS = 10000;
+    /** So many calls are left of an object's 512 to look at what became of it. */
+    private static final int LOOKS = 112;
     private static final int[] EDGES = {-1, -2, -3, 0, 1, 2, 3, 4, 16, 17, 20, 21, 24, 32, 33, 255, 256, 1480, 1481, 65535,
         65536, 1000000, 1000001, Integer.MAX_VALUE, Integer.MIN_VALUE};
     private static final int[] ADDRESSES = {0, 1, -1, 0x01020304, 0x05060708, 0x0A000001, 0x0A010001, 0x0B000001,
@@ -14,13 +16,14 @@ public final class ModelTest {
     private final Random random;
     private final int seed;
     private final int own;
-    private final SealedGateway gate;
+    private final Gate gate;
     private final Model model;
     /** What the run knows of the seals that it made: way, tunnel, name, LONG; keys. */
     private final int[][] seals = new int[16][];
     private final long[][] keys = new long[16][];
     private int made;
     private int[] lastSealed = new int[0];
+    private boolean isLooking;
     private final int[] reasons;
 
     private ModelTest(int seed, int[] reasons) {
@@ -28,7 +31,7 @@ public final class ModelTest {
         this.reasons = reasons;
         random = new Random(seed * 7919L);
         own = pick(ADDRESSES);
-        gate = new SealedGateway(own);
+        gate = new Gate(own);
         model = new Model(own);
     }
 
@@ -45,7 +48,7 @@ public final class ModelTest {
     }
 
     private interface Call {
-        long on(SealedGateway g);
+        long on(Gate g);
     }
 
     private interface ModelCall {
@@ -54,11 +57,19 @@ public final class ModelTest {
 
     private static final long THROWN = Long.MIN_VALUE + 12345;
 
+    /** The run has made as many calls as it may. */
+    private static final class Over extends Error {
+        private static final long serialVersionUID = 1;
+    }
+
     private static String name(RuntimeException e) {
         return e.getClass().getName();
     }
 
     private long both(String call, Call c, ModelCall m) {
+        if (!isLooking && gate.left() <= LOOKS) {
+            throw new Over();
+        }
         long got = THROWN;
         long want = THROWN;
         String thrown = "";
@@ -97,13 +108,18 @@ public final class ModelTest {
     }
 
     private void run() {
-        int calls = 60 + random.nextInt(100);
-        if (!chance(8)) {
-            setUp();
+        int steps = 5 + random.nextInt(100);
+        try {
+            if (!chance(8)) {
+                setUp();
+            }
+            for (int k = 0; k < steps; k++) {
+                step();
+            }
+        } catch (Over e) {
+            // What became of it by then is looked at all the same.
         }
-        for (int k = 0; k < calls; k++) {
-            step();
-        }
+        isLooking = true;
         look();
     }
 
@@ -119,7 +135,9 @@ public final class ModelTest {
         }
         policy(0, 0, 0, 0, 0, random.nextInt(3) - 1);
         policy(1, 0, 0, 0, 0, random.nextInt(3) - 1);
-        for (int k = random.nextInt(4); k >= 0; k--) {
+        seal(0, random.nextInt(2), NAMES[random.nextInt(2)]);
+        seal(1, random.nextInt(2), NAMES[2 + random.nextInt(2)]);
+        for (int k = random.nextInt(3); k > 0; k--) {
             seal();
         }
     }
@@ -140,10 +158,7 @@ public final class ModelTest {
             case 20 -> ask();
             default -> again();
         }
-        if (chance(15)) {
-            look();
-        }
-        if (chance(400)) {
+        if (chance(200)) {
             both("clear", g -> {
                 g.clear();
                 return 0;
@@ -186,9 +201,10 @@ public final class ModelTest {
     }
 
     private void seal() {
-        int way = some(0, 1);
-        int tunnel = chance(3) ? some(0, 3) : some(0, 1);
-        int name = pick(NAMES);
+        seal(some(0, 1), chance(3) ? some(0, 3) : some(0, 1), pick(NAMES));
+    }
+
+    private void seal(int way, int tunnel, int name) {
         long key = chance(2) ? 5 : random.nextLong();
         long stampKey = chance(2) ? 6 : random.nextLong();
         boolean isLong = random.nextBoolean();
@@ -225,7 +241,7 @@ public final class ModelTest {
     }
 
     private int[] somePacket() {
-        int n = chance(4) ? 1400 + random.nextInt(581) : random.nextInt(40);
+        int n = chance(8) ? 1400 + random.nextInt(581) : random.nextInt(40);
         int kind = pick(new int[] {0, 1, 6, 17, 50});
         int hops = chance(6) ? random.nextInt(3) : 1 + random.nextInt(255);
         int[] p = Bytes.packet(pick(ADDRESSES), pick(ADDRESSES), kind, hops, Bytes.content(n, random.nextInt(300)));

@@ -12,10 +12,13 @@ public final class OuterPortTest {
 
     public static void main(String[] args) {
         unsealed();
+        unsealedInParts();
+        stampedBytes();
         reasonsInOrder();
         shapes();
         texts();
         insides();
+        bigInsides();
         window();
         longNumbers();
         lives();
@@ -25,8 +28,8 @@ public final class OuterPortTest {
     }
 
     /** Seal 0 is 300 of tunnel 1, seal 1 is 301 of tunnel 1 and LONG. */
-    private static SealedGateway gate() {
-        SealedGateway g = new SealedGateway(OWN);
+    private static Gate gate() {
+        Gate g = new Gate(OWN);
         g.route(0x0A000000, 8, 0);
         g.route(0x0B000000, 8, 1);
         g.peer(1, PEER);
@@ -53,7 +56,7 @@ public final class OuterPortTest {
     }
 
     private static void unsealed() {
-        SealedGateway g = new SealedGateway(OWN);
+        Gate g = new Gate(OWN);
         int[] p = Bytes.packet(OUT, IN, 17, 2, Bytes.content(13, 5));
         DUE.is("BROKEN", Bytes.come(g, 1, Arrays.copyOf(p, 32)), 1);
         DUE.is("no policy", Bytes.come(g, 1, p), 16);
@@ -80,15 +83,23 @@ public final class OuterPortTest {
         DUE.is("kind 50 to another is another packet", Bytes.come(g, 1, Bytes.packet(OUT, IN, 50, 2, new int[0])), 0);
         DUE.is("its part too", Bytes.come(g, 1, Bytes.with(Bytes.packet(OUT, IN, 50, 2, new int[3]), 0, 0, Bytes.MORE)), 0);
         DUE.is("another kind to OWN too", Bytes.come(g, 1, Bytes.packet(OUT, OWN, 51, 2, new int[0])), 0);
+    }
+
+    private static void unsealedInParts() {
+        Gate g = new Gate(OWN);
+        g.policy(1, 0, 0, 0, 0, -1);
+        g.route(0, 0, 0);
         int[] big = Bytes.packet(OUT, IN, 1, 2, Bytes.content(1900, 1));
-        DUE.is("TOO MUCH", Bytes.come(g, 1, Bytes.with(big, 0, 0, Bytes.DONT)), 6);
         DUE.is("in parts", Bytes.come(g, 1, big), 0);
         DUE.is("the second", g.sent(1, -1), 440);
         DUE.is("its port", g.sent(1, -2), 0);
+        g.poke(6, 0x40);
+        g.sum();
+        DUE.is("TOO MUCH", g.come(1), 6);
     }
 
     private static void reasonsInOrder() {
-        SealedGateway g = gate();
+        Gate g = gate();
         int[] p = sealed(300, 1);
         DUE.is("come", Bytes.come(g, 1, Bytes.join(p, new int[] {5, 6})), 0);
         DUE.is("the inner packet", Arrays.equals(Bytes.sent(g, 0), Bytes.oneHopLess(inner())), true);
@@ -103,13 +114,6 @@ public final class OuterPortTest {
         changed = p.clone();
         changed[30] ^= 1;
         DUE.is("11 is before 12", Bytes.come(g, 1, changed), 11);
-        for (int k = 24; k < p.length; k++) {
-            int[] other = sealed(300, 2);
-            other[k] ^= 128;
-            DUE.is("12, byte " + k, Bytes.come(g, 1, other), 12);
-        }
-        DUE.is("the seal is as it was", g.top(0), 1);
-        DUE.is("its LIFE too", g.told(0, 3), 999);
         g.stop(0);
         DUE.is("DEAD", Bytes.come(g, 1, sealed(300, 2)), 9);
         g.seal(0, 1, 400, KEY, STAMP_KEY, false, 9);
@@ -120,21 +124,35 @@ public final class OuterPortTest {
         DUE.is("and is again", Bytes.come(g, 1, sealed(301, 2)), 0);
     }
 
-    private static void shapes() {
-        SealedGateway g = gate();
-        for (int n = 0; n <= 40; n++) {
-            int[] content = Bytes.join(Bytes.four(301), new int[n]);
-            int size = content.length;
-            int want = size < 20 || size % 4 != 0 ? 8 : 10;
-            DUE.is("content of " + size, Bytes.come(g, 1, around(content)), want);
+    /** Each byte behind the name is stamped, and the stamp is looked at to its last byte. */
+    private static void stampedBytes() {
+        int[] p = sealed(300, 2);
+        for (int k = 24; k < p.length; k++) {
+            Gate g = gate();
+            g.count(0, 1);
+            int[] other = p.clone();
+            other[k] ^= 128;
+            DUE.is("12, byte " + k, Bytes.come(g, 1, other), 12);
+            DUE.is("the seal is as it was", g.top(0), 1);
+            DUE.is("what was seen too", g.seen(0), 1);
+            DUE.is("its LIFE too", g.told(0, 3), 1000);
+            DUE.is("and takes the right one", Bytes.come(g, 1, p), 0);
         }
-        DUE.is("the log has the 10s", g.log(0, 0), 10);
-        DUE.is("ended(10)", g.ended(10), 7);
-        DUE.is("ended(8)", g.ended(8), 34);
+    }
+
+    private static void shapes() {
+        for (int size = 0; size <= 44; size++) {
+            Gate g = gate();
+            int[] content = Arrays.copyOf(Bytes.four(301), size);
+            boolean fits = size >= 20 && size % 4 == 0;
+            DUE.is("content of " + size, Bytes.come(g, 1, around(content)), fits ? 10 : 8);
+            DUE.is("ended(10)", g.ended(10), fits ? 1 : 0);
+            DUE.is("ended(8)", g.ended(8), fits ? 0 : 1);
+        }
     }
 
     private static void texts() {
-        SealedGateway g = gate();
+        Gate g = gate();
         int[][] texts = {
             {0, 0, 0, 59}, {1, 2, 2, 59}, {1, 2, 2, 4}, {0, 1, 1, 59}, {0, 2, 1, 59}, {0, 0, 3, 59}, {0, 0, 255, 4},
             {1, 1, 2, 59}, {1, 2, 2, 58}, {0, 0, 0, 0}, {1, 2, 3, 59}, {0, 0, 0, 4},
@@ -163,7 +181,7 @@ public final class OuterPortTest {
     }
 
     private static void insides() {
-        SealedGateway g = gate();
+        Gate g = gate();
         int[] p = inner();
         DUE.is("15: longer than its LENGTH", Bytes.come(g, 1, sealed(300, 1, Bytes.text(Bytes.join(p, new int[1])))), 15);
         DUE.is("15: shorter", Bytes.come(g, 1, sealed(300, 2, Bytes.text(Arrays.copyOf(p, 32)))), 15);
@@ -185,18 +203,22 @@ public final class OuterPortTest {
         DUE.is("3: to the outer port", Bytes.come(g, 1, sealed(300, 9, Bytes.text(Bytes.mend(third)))), 3);
         int[] nowhere = Bytes.packet(OUT + 1, 5, 17, 2, new int[0]);
         DUE.is("3: nowhere", Bytes.come(g, 1, sealed(300, 10, Bytes.text(nowhere))), 3);
-        int[] big = Bytes.packet(OUT, IN, 17, 2, Bytes.content(1500, 2));
-        DUE.is("6", Bytes.come(g, 1, sealed(300, 11, Bytes.text(Bytes.with(big, 0, 0, Bytes.DONT)))), 6);
-        DUE.is("in parts", Bytes.come(g, 1, sealed(300, 12, Bytes.text(big))), 0);
-        int[] less = Bytes.oneHopLess(big);
-        DUE.is("the first", Arrays.equals(Bytes.sent(g, 0), Bytes.part(less, 0, 1480, true)), true);
-        DUE.is("the second", Arrays.equals(Bytes.sent(g, 1), Bytes.part(less, 1480, 20, false)), true);
-        DUE.is("seen", g.seen(0), 4095);
+        DUE.is("seen", g.seen(0), 1023);
         DUE.is("sealed by the gateway: none", g.ended(19), 0);
     }
 
+    private static void bigInsides() {
+        Gate g = gate();
+        int[] big = Bytes.packet(OUT, IN, 17, 2, Bytes.content(1500, 2));
+        DUE.is("6", Bytes.come(g, 1, sealed(300, 1, Bytes.text(Bytes.with(big, 0, 0, Bytes.DONT)))), 6);
+        DUE.is("in parts", Bytes.come(g, 1, sealed(300, 2, Bytes.text(big))), 0);
+        int[] less = Bytes.oneHopLess(big);
+        DUE.is("the first", Arrays.equals(Bytes.sent(g, 0), Bytes.part(less, 0, 1480, true)), true);
+        DUE.is("the second", Arrays.equals(Bytes.sent(g, 1), Bytes.part(less, 1480, 20, false)), true);
+    }
+
     private static void window() {
-        SealedGateway g = gate();
+        Gate g = gate();
         DUE.is("0 is OLD", Bytes.come(g, 1, sealed(300, 0)), 10);
         DUE.is("100", Bytes.come(g, 1, sealed(300, 100)), 0);
         DUE.is("36 is OLD", Bytes.come(g, 1, sealed(300, 36)), 10);
@@ -225,7 +247,6 @@ public final class OuterPortTest {
     }
 
     private static void longNumbers() {
-        SealedGateway g = gate();
         long two32 = 1L << 32;
         long[] tops = {0, 1, 62, 63, 64, 1000, two32 - 1, two32, two32 + 61, two32 + 62, two32 + 63, two32 + 64,
             5 * two32 + 10, 5 * two32 + 1000, Long.MAX_VALUE - two32, Long.MAX_VALUE - 1, Long.MAX_VALUE};
@@ -236,31 +257,28 @@ public final class OuterPortTest {
                 if (number < 0) {
                     continue;
                 }
-                g.clear();
-                g.route(0, 0, 0);
-                g.peer(1, PEER);
-                g.policy(1, 0, 0, 0, 0, 1);
-                g.seal(1, 1, 301, KEY, STAMP_KEY, true, 1000);
-                g.count(0, top);
+                Gate g = gate();
+                g.count(1, top);
                 // What is not within the window's 2^32 numbers is taken for another number, so that its stamp is wrong.
                 boolean isAnother = step < -63 || step >= two32 - 63;
                 long taken = !isAnother ? number : step < 0 ? number + two32 : number - two32;
                 int want = taken <= 0 ? 10 : taken == top ? 11 : isAnother ? 12 : 0;
                 DUE.is("top " + top + ", number " + number, Bytes.come(g, 1, sealed(301, number)), want);
-                DUE.is("top behind it", g.top(0), want == 0 ? Math.max(top, number) : top);
+                DUE.is("top behind it", g.top(1), want == 0 ? Math.max(top, number) : top);
             }
         }
-        g.count(0, Long.MAX_VALUE - 5);
+        Gate g = gate();
+        g.count(1, Long.MAX_VALUE - 5);
         DUE.is("2^31 as the highest bits: OLD", Bytes.come(g, 1, sealed(301, 7)), 10);
-        g.count(0, 10);
+        g.count(1, 10);
         DUE.is("h is 0: OLD", Bytes.come(g, 1, sealed(301, two32 - 1)), 10);
         DUE.is("h is 0, the last one that is not", Bytes.come(g, 1, sealed(301, two32 - 54)), 0);
-        g.count(0, 10);
+        g.count(1, 10);
         DUE.is("h is 0: OLD", Bytes.come(g, 1, sealed(301, two32 - 53)), 10);
     }
 
     private static void lives() {
-        SealedGateway g = gate();
+        Gate g = gate();
         g.seal(1, 1, 500, KEY, STAMP_KEY, false, 2);
         DUE.is("LIFE 2", Bytes.come(g, 1, sealed(500, 1)), 0);
         DUE.is("LIFE 1", Bytes.come(g, 1, sealed(500, 2, new int[] {0, 0, 0, 59})), 14);
@@ -270,7 +288,7 @@ public final class OuterPortTest {
         DUE.is("stop", g.stop(2), false);
     }
 
-    private static void logRow(SealedGateway g, int k, int reason, int from, int to, int name, int number) {
+    private static void logRow(Gate g, int k, int reason, int from, int to, int name, int number) {
         int[] want = {reason, from, to, name, number};
         for (int what = 0; what < 5; what++) {
             DUE.is("log(" + k + ", " + what + ")", g.log(k, what), want[what]);
@@ -278,7 +296,7 @@ public final class OuterPortTest {
     }
 
     private static void log() {
-        SealedGateway g = gate();
+        Gate g = gate();
         Bytes.come(g, 1, sealed(0x89ABCDEF, 0xFEDCBA98L));
         logRow(g, 0, 9, PEER, OWN, 0x89ABCDEF, 0xFEDCBA98);
         Bytes.come(g, 1, sealed(300, 0));
@@ -325,7 +343,7 @@ public final class OuterPortTest {
     }
 
     private static void clearing() {
-        SealedGateway g = gate();
+        Gate g = gate();
         g.policy(0, 0, 0, 0, 0, -1);
         g.seal(0, 1, 302, 1, 1, true, 5);
         g.meant(5, 6, 7);

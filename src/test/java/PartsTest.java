@@ -17,8 +17,8 @@ public final class PartsTest {
         DUE.finish();
     }
 
-    private static SealedGateway gate() {
-        SealedGateway g = new SealedGateway(OWN);
+    private static Gate gate() {
+        Gate g = new Gate(OWN);
         g.route(0, 0, 0);
         g.peer(0, PEER);
         g.policy(1, 0, 0, 0, 0, 0);
@@ -41,7 +41,7 @@ public final class PartsTest {
     }
 
     private static void wholes() {
-        SealedGateway g = gate();
+        Gate g = gate();
         int[][] orders = {{0, 1, 2}, {0, 2, 1}, {1, 0, 2}, {1, 2, 0}, {2, 0, 1}, {2, 1, 0}};
         for (int k = 0; k < orders.length; k++) {
             int[] whole = sealed(k + 1, 62, 0xFFFF - k);
@@ -96,7 +96,7 @@ public final class PartsTest {
         DUE.is("up to 1984, MORE", fresh(part(247, 8, true, 1)), 17);
         DUE.is("OFFSET 8191", fresh(part(8191, 8, true, 1)), 17);
         DUE.is("BROKEN is before", fresh(Arrays.copyOf(part(0, 9, true, 1), 28)), 1);
-        SealedGateway g = gate();
+        Gate g = gate();
         DUE.is("WRONG without a heap", Bytes.come(g, 1, part(0, 1, true, 1)), 17);
         DUE.is("no heap", g.ended(20), 0);
         DUE.is("ended(17)", g.ended(17), 1);
@@ -104,7 +104,7 @@ public final class PartsTest {
 
     /** Parts, each an OFFSET, a size and MORE (1): all are kept but the last one, which is wrong. */
     private static void wrongBehind(String why, int[][] parts, int reason) {
-        SealedGateway g = gate();
+        Gate g = gate();
         Bytes.come(g, 1, part(3, 8, true, 2));
         for (int k = 0; k < parts.length; k++) {
             int[] p = parts[k];
@@ -141,7 +141,7 @@ public final class PartsTest {
     }
 
     private static void heaps() {
-        SealedGateway g = gate();
+        Gate g = gate();
         for (int n = 1; n <= 4; n++) {
             DUE.is("heap " + n, Bytes.come(g, 1, part(1, 8, true, n)), 7);
             DUE.is("heaps", g.ended(20), n);
@@ -171,7 +171,7 @@ public final class PartsTest {
     }
 
     private static void ticks() {
-        SealedGateway g = gate();
+        Gate g = gate();
         Bytes.come(g, 1, part(1, 8, true, 1));
         DUE.is("tick 1", g.tick(), 0);
         Bytes.come(g, 1, part(1, 8, true, 2));
@@ -195,7 +195,7 @@ public final class PartsTest {
     }
 
     private static void loop() {
-        SealedGateway g = new SealedGateway(OWN);
+        Gate g = new Gate(OWN);
         g.route(0, 0, 1);
         g.route(0x0A000000, 8, 0);
         g.peer(3, OWN);

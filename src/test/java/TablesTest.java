@@ -15,7 +15,7 @@ public final class TablesTest {
     }
 
     private static void routing() {
-        SealedGateway g = new SealedGateway(1);
+        Gate g = new Gate(1);
         DUE.is("route", g.route(0x0A000000, 8, 0), 1);
         DUE.is("routed", g.routed(0x0AFFFFFF), 0);
         DUE.is("routed elsewhere", g.routed(0x0B000000), -1);
@@ -50,7 +50,7 @@ public final class TablesTest {
     }
 
     private static void peers() {
-        SealedGateway g = new SealedGateway(1);
+        Gate g = new Gate(1);
         for (int t = 0; t < 4; t++) {
             DUE.is("peer", g.peer(t, 100 + t), 0);
         }
@@ -65,7 +65,7 @@ public final class TablesTest {
     }
 
     private static void policies() {
-        SealedGateway g = new SealedGateway(1);
+        Gate g = new Gate(1);
         g.make(0x0A000001, 0x0B000001, 1, 9, 0, 0);
         DUE.is("policy", g.policy(1, 0, 0, 0, 0, -1), 1);
         DUE.is("meaning: another way", g.meaning(0), -1);
@@ -104,13 +104,13 @@ public final class TablesTest {
         DUE.is("meaning: the first is any", g.meaning(1), 0);
     }
 
-    private static int meaning(SealedGateway g, int kind, int n, int number) {
+    private static int meaning(Gate g, int kind, int n, int number) {
         g.make(1, 2, kind, 9, n, number);
         return g.meaning(0);
     }
 
     private static void doors() {
-        SealedGateway g = new SealedGateway(1);
+        Gate g = new Gate(1);
         int door = 12 * 256 + 13;
         g.meant(17, door, door);
         g.policy(0, 0, 0, 0, 0, 0);
@@ -187,7 +187,7 @@ public final class TablesTest {
     }
 
     private static void seals() {
-        SealedGateway g = new SealedGateway(1);
+        Gate g = new Gate(1);
         DUE.is("seal", g.seal(0, 3, 256, 1, 2, true, 1), 0);
         DUE.is("seal of the same name out", g.seal(0, 2, 256, 1, 2, false, 1000000), 1);
         DUE.is("seal of the same name in", g.seal(1, 1, 256, 1, 2, false, 7), 2);
@@ -231,7 +231,7 @@ public final class TablesTest {
     }
 
     private static void counting() {
-        SealedGateway g = new SealedGateway(1);
+        Gate g = new Gate(1);
         g.seal(0, 0, 256, 1, 2, false, 9);
         g.seal(1, 0, 256, 1, 2, true, 9);
         DUE.is("count", g.count(0, 4294967295L), 0);
@@ -252,7 +252,7 @@ public final class TablesTest {
     }
 
     private static void stopping() {
-        SealedGateway g = new SealedGateway(1);
+        Gate g = new Gate(1);
         g.seal(0, 0, 256, 1, 2, false, 9);
         g.seal(1, 0, 256, 1, 2, false, 9);
         DUE.is("stop", g.stop(1), true);

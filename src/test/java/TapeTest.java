@@ -16,7 +16,7 @@ public final class TapeTest {
 
     private static void newObject() {
         for (int own : new int[] {0, 1, -1, Integer.MIN_VALUE, Integer.MAX_VALUE}) {
-            SealedGateway g = new SealedGateway(own);
+            Gate g = new Gate(own);
             DUE.index("at(0) of a new one", () -> g.at(0));
             DUE.argument("keep(1) of a new one", () -> g.keep(1));
             DUE.is("routed of a new one", g.routed(own), -1);
@@ -43,7 +43,7 @@ public final class TapeTest {
     }
 
     private static void typing() {
-        SealedGateway g = new SealedGateway(1);
+        Gate g = new Gate(1);
         DUE.is("type", g.type(0x0102030405060708L), 8);
         DUE.is("type", g.type(0xF1F2F3F4F5F6F7F8L), 16);
         for (int k = 0; k < 8; k++) {
@@ -69,7 +69,7 @@ public final class TapeTest {
     }
 
     private static void keeping() {
-        SealedGateway g = new SealedGateway(1);
+        Gate g = new Gate(1);
         g.type(0x0102030405060708L);
         g.keep(8);
         DUE.is("at(7)", g.at(7), 8);
@@ -85,7 +85,7 @@ public final class TapeTest {
     }
 
     private static void poking() {
-        SealedGateway g = new SealedGateway(1);
+        Gate g = new Gate(1);
         g.type(0x80000000000000FFL);
         DUE.is("poke(0, 255)", g.poke(0, 255), 128);
         DUE.is("poke(0, 0)", g.poke(0, 0), 255);
@@ -103,7 +103,7 @@ public final class TapeTest {
     }
 
     private static void making() {
-        SealedGateway g = new SealedGateway(1);
+        Gate g = new Gate(1);
         int[][] rows = {{1, 2, 0, 0, 0, 0}, {-1, 0x80000000, 255, 255, 1480, -5}, {0x0A000001, 0x0B000002, 17, 64, 300, 250},
             {0, 0, 6, 1, 4, Integer.MAX_VALUE}, {0, 0, 6, 1, 5, Integer.MIN_VALUE}};
         for (int[] r : rows) {
@@ -128,7 +128,7 @@ public final class TapeTest {
     }
 
     private static void summing() {
-        SealedGateway g = new SealedGateway(1);
+        Gate g = new Gate(1);
         DUE.state("sum of nothing", g::sum);
         g.type(0);
         g.type(0);
