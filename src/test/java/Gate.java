@@ -3,7 +3,7 @@ import java.util.List;
 
 /**
  * A gateway as the document lets it be used: an object gets 512 calls and no more. When it has had them, the calls
- * that changed it are done again on a new object, and the asking goes on there.
+ * that could change it, also those that were refused, are done again on a new object, and the asking goes on there.
  */
 final class Gate {
     private static final int CALLS = 512;
@@ -16,6 +16,7 @@ final class Gate {
     private final List<Call> changes = new ArrayList<>();
     private SealedGateway object;
     private int calls;
+    private boolean isAskingKept;
 
     Gate(int own) {
         this.own = own;
@@ -27,6 +28,11 @@ final class Gate {
         return CALLS - changes.size();
     }
 
+    /** From now on what only asks is done again too (or, with false, no more). */
+    void keepAsking(boolean isKept) {
+        isAskingKept = isKept;
+    }
+
     private void makeRoom() {
         if (calls == CALLS) {
             if (left() <= 0) {
@@ -34,24 +40,33 @@ final class Gate {
             }
             object = new SealedGateway(own);
             for (Call change : changes) {
-                change.on(object);
+                doAgain(change);
             }
             calls = changes.size();
         }
         calls++;
     }
 
+    private void doAgain(Call call) {
+        try {
+            call.on(object);
+        } catch (RuntimeException e) {
+            // It was refused when it was made, and told then.
+        }
+    }
+
     private long ask(Call call) {
+        if (isAskingKept) {
+            return change(call);
+        }
         makeRoom();
         return call.on(object);
     }
 
-    /** A call that throws changes nothing: it is not done again. */
     private long change(Call call) {
         makeRoom();
-        long answer = call.on(object);
         changes.add(call);
-        return answer;
+        return call.on(object);
     }
 
     int type(long bytes) {
