@@ -26,6 +26,7 @@ public final class PacketEdgesTest {
         partBits();
         doorKinds();
         doorContent();
+        doorsThroughPorts();
         DUE.finish();
     }
 
@@ -397,6 +398,22 @@ public final class PacketEdgesTest {
                         DUE.is("door " + door + " of " + only, g.meaning(0), d == 0 ? 0 : -1);
                     }
                 }
+            }
+        }
+    }
+
+    /** Bytes behind LENGTH are no door for packets that come either. */
+    private static void doorsThroughPorts() {
+        for (int port = 0; port <= 1; port++) {
+            for (int n = 0; n <= 5; n++) {
+                Gate g = new Gate(1);
+                g.route(0, 0, 1 - port);
+                g.meant(0, 0, 65534);
+                g.policy(port, 0, 0, 0, 0, -1);
+                g.make(FROM, TO, 17, 9, 6, 0);
+                g.poke(3, 20 + n);
+                g.sum();
+                DUE.is("port " + port + ", a door of " + n + " bytes", g.come(port), n < 4 ? port == 0 ? 4 : 16 : 0);
             }
         }
     }

@@ -276,6 +276,13 @@ public final class PartEdgesTest {
             DUE.is("a last one up to " + (8 * row[0] + row[1]), keep(g, row[0], row[1], false), 17);
             DUE.is("heaps", g.ended(20), 0);
         }
+        // What was laid last, or how much there is, is no matter: the farthest byte counts.
+        for (int[] row : rows) {
+            Gate g = gate();
+            keep(g, 4, 8, true);
+            keep(g, 0, 8, true);
+            DUE.is("a last one up to " + (8 * row[0] + row[1]) + " behind two", keep(g, row[0], row[1], false), 17);
+        }
         int[][] good = {{5, 0}, {5, 1}, {5, 8}, {6, 0}};
         for (int[] row : good) {
             Gate g = gate();

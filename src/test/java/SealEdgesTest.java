@@ -20,6 +20,10 @@ public final class SealEdgesTest {
         endOfTheCounter();
         endOfTheLife();
         theLatestThatCan();
+        theLatestOfSixteen();
+        theNamedOfSixteen();
+        sealsBeforeClear();
+        outerHops();
         shapes();
         names();
         peers();
@@ -244,7 +248,73 @@ public final class SealEdgesTest {
         DUE.is("none", g.come(0), 5);
     }
 
+    /** Of 16 seals the latest is taken, until it is DEAD, and so on down to the first one. */
+    private static void theLatestOfSixteen() {
+        Gate g = new Gate(OWN);
+        g.route(0, 0, 1);
+        g.policy(0, 0, 0, 0, 0, 2);
+        for (int n = 0; n < 16; n++) {
+            g.seal(0, 2, 0x10203040 + n, KEY, STAMP_KEY, false, 2);
+        }
+        g.make(IN, OUT, 1, 9, 0, 0);
+        for (int n = 15; n >= 0; n--) {
+            for (int life = 1; life >= 0; life--) {
+                DUE.is("come", g.come(0), 0);
+                DUE.is("the name of " + n, g.sent(0, 23), 0x40 + n);
+                DUE.is("LIFE of " + n, g.told(n, 3), life);
+            }
+        }
+        DUE.is("none left", g.come(0), 5);
+    }
+
+    /** Of 16 seals of the way in the one with its NAME opens it. */
+    private static void theNamedOfSixteen() {
+        Gate g = new Gate(OWN);
+        g.route(0, 0, 0);
+        g.peer(2, PEER);
+        g.policy(1, 0, 0, 0, 0, 2);
+        for (int n = 0; n < 16; n++) {
+            g.seal(1, 2, 1000 + n, n, -n, (n & 1) == 1, 9);
+        }
+        for (int n = 15; n >= 0; n--) {
+            int[] content = Bytes.sealedContent(Bytes.text(inner()), 1000 + n, n, -n, (n & 1) == 1, 50 + n);
+            DUE.is("by the name of " + n, Bytes.come(g, 1, around(content)), 0);
+            DUE.is("top of " + n, g.top(n), 50 + n);
+        }
+    }
+
+    /** clear: none of the seals that were there is used or named. */
+    private static void sealsBeforeClear() {
+        Gate g = new Gate(OWN);
+        for (int n = 0; n < 16; n++) {
+            g.seal(n & 1, 2, 0x10203040 + n / 2, KEY, STAMP_KEY, false, 9);
+        }
+        g.clear();
+        g.route(IN, 32, 0);
+        g.route(OUT, 32, 1);
+        g.peer(2, PEER);
+        g.policy(0, 0, 0, 0, 0, 2);
+        g.policy(1, 0, 0, 0, 0, 2);
+        g.make(IN, OUT, 1, 9, 0, 0);
+        DUE.is("none to seal with", g.come(0), 5);
+        DUE.is("none to open with", Bytes.come(g, 1, sealed(false, 1)), 9);
+        DUE.is("its name is free", g.seal(1, 2, 0x10203040, KEY, STAMP_KEY, false, 9), 0);
+        DUE.is("one to open with", Bytes.come(g, 1, sealed(false, 1)), 0);
+        g.make(IN, OUT, 1, 9, 0, 0);
+        DUE.is("still none to seal with", g.come(0), 5);
+        DUE.index("no seal 1", () -> g.top(1));
+    }
+
     // ---- to open
+
+    /** Only the HOPS of the inner packet are looked at. */
+    private static void outerHops() {
+        for (int hops : new int[] {0, 1, 2, 255}) {
+            int[] p = sealed(false, 1);
+            p[8] = hops;
+            DUE.is("sealed, hops " + hops, Bytes.come(gate(false, 9), 1, Bytes.mend(p)), 0);
+        }
+    }
 
     /** 8 its content has less than 20 bytes, or without the 16 of NAME, number and STAMP no multiple of 4. */
     private static void shapes() {

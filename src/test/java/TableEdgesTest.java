@@ -190,11 +190,33 @@ public final class TableEdgesTest {
         for (int n = 1; n <= 24; n++) {
             DUE.is("place of " + n, meaning(g, n & 1, n, 0), n - 1);
         }
+        g.route(0, 0, 1);
+        g.make(24, 0, 1, 9, 0, 0);
+        DUE.is("the last one of the way out is done", g.come(0), 0);
+        g.route(0, 32, 0);
+        g.make(23, 0, 1, 9, 0, 0);
+        DUE.is("the last one of the way in is done", g.come(1), 0);
         DUE.is("no place", meaning(g, 0, 25, 0), -1);
         DUE.is("no place of the way in", meaning(g, 1, 25, 0), -1);
+        for (int way = 0; way <= 1; way++) {
+            lastPolicy(way);
+        }
         g.clear();
         DUE.is("room again", g.policy(0, 1, 32, 0, 0, -1), 1);
         DUE.is("an old one", meaning(g, 0, 2, 0), -1);
+    }
+
+    /** The 24th is done as any other one. */
+    private static void lastPolicy(int way) {
+        Gate g = new Gate(1);
+        g.route(0, 0, 1 - way);
+        for (int n = 1; n < 24; n++) {
+            g.policy(way, n, 32, 0, 0, -2);
+        }
+        g.make(24, 0, 1, 9, 0, 0);
+        DUE.is("without it, way " + way, g.come(way), way == 0 ? 4 : 16);
+        DUE.is("policy 24", g.policy(way, 24, 32, 0, 0, -1), 24);
+        DUE.is("with it, way " + way, g.come(way), 0);
     }
 
     /** A packet's policy is the first one of its WAY that means it. */

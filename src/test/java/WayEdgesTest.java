@@ -363,6 +363,15 @@ public final class WayEdgesTest {
             DUE.is("log(" + k + ", 1)", g.log(k, 1), 35 - k);
         }
         DUE.is("all are counted", g.ended(16), 35);
+        Gate sealed = new Gate(OWN);
+        for (int n = 1; n <= 40; n++) {
+            sealed.make(n, OWN, 50, 9, 20, n);
+            DUE.is("come", sealed.come(1), 9);
+        }
+        for (int k = 0; k < 16; k++) {
+            int n = 40 - k;
+            logRow(sealed, k, 9, n, OWN, n * 0x01010101 + 0x00010203, n * 0x01010101 + 0x04050607);
+        }
     }
 
     /** The NAME and the 4 bytes of the number as they stand in the packet, 0 for both when it was no sealed one. */
